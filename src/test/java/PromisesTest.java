@@ -23,6 +23,7 @@ public final class PromisesTest {
         left();
         minimal();
         same();
+        sameButForOne();
         sameLeavesAll();
         System.out.println(wrong == 0 ? "all answers are as due" : wrong + " answers are not as due");
         if (wrong != 0) {
@@ -132,6 +133,7 @@ public final class PromisesTest {
             158, 15, 52, 124, 33, 22, 519, 30, 31, 728, 35, 14});
         parts(-3L, 2, new int[] {876, 48, 1, 200, 11, 97, 361, 60, 2, 529, 26, 19,
             994, 43, 7, 109, 59, 8, 98, 58, 23, 787, 57, 8});
+        parts(42L, 2, new int[] {298, 1, 432, 518, 15, 64});
         parts(7L, 3, new int[] {7, 481, 0, 8, 15, 0, 9, 623, 0, 9, 900, 0, 3, 207, 0, 8, 319, 0, 4, 428, 0, 3, 485, 0});
         parts(-3L, 3, new int[] {3, 783, 2, 6, 286, 0, 2, 667, 0, 8, 885, 0, 9, 248, 0, 8, 902, 2, 4, 67, 0, 6, 693, 0});
         parts(7L, 4, new int[] {1, -1, 108, 0, -1, 112, 2, -1, 126, 1, 0, 139,
@@ -168,6 +170,8 @@ public final class PromisesTest {
         signs(7L, 7, "hl\nhl\n\nl\nnkawyi\nro\nmay\nryu\n");
         signs(-3L, 7, "sp\n\n\nqjpa\n\nmcpfgp\n\nqlwrm\n");
         signs(12L, 5, "qtezj\nqtezj\nqtezj\nr\nrhv\no\n");
+        signs(25499L, 20, "cdjsjc\ncdjsjc\nmfubi\ncdjsjc\ncdjsjc\nyldq\ncdjsjc\ncdjsjc\nymhml\nimy\nnayd\n"
+                + "isduf\nuspim\ncdjsjc\ngpaan\ndhjwur\nisduf\nyfbqi\ncdjsjc\nqqpax\nidmi\n");
         LibraryDrawer x = drawn(7L, 0, 20);
         for (int kind = 1; kind < 6; kind++) {
             x.draw(0, 20);
@@ -233,6 +237,8 @@ public final class PromisesTest {
         counts(-3L, 0, 7, new int[] {4, 1, 1, 0, 0, 0, 0, 0});
         counts(292L, 0, 5, new int[] {3, 2, 1, 0, 0, 0, 0, 0});
         counts(7L, 1, 7, new int[] {0, 0, 0, 4, 0, 0, 0, 0});
+        counts(7L, 1, 4, new int[] {0, 0, 0, 2, 0, 0, 0, 0});
+        counts(7L, 1, 0, new int[] {0, 0, 0, 0, 0, 0, 0, 0});
         counts(7L, 2, 7, new int[] {0, 0, 0, 0, 0, 0, 0, 0});
         counts(194L, 2, 3, new int[] {0, 0, 0, 0, 1, 0, 0, 0});
         counts(7L, 3, 7, new int[] {0, 0, 0, 0, 0, 0, 0, 0});
@@ -391,6 +397,9 @@ public final class PromisesTest {
         due("minimal(), the left are torn now", x.minimal(), false);
         due("shorter()", x.shorter(), 2);
         due("minimal(), 0 and 2 together", x.minimal(), true);
+        x.draw(2, 2);
+        x.verdict(6, true);
+        due("minimal(), the first is not needed", x.minimal(), false);
         LibraryDrawer y = drawn(7L, 2, 2);
         y.verdict(0, true);
         y.verdict(7, false);
@@ -422,6 +431,18 @@ public final class PromisesTest {
         sameBoth(5L, 5L, 6, 0, false);
         sameBoth(5L, 5L, Integer.MIN_VALUE, 0, false);
         sameBoth(5L, 5L, Integer.MAX_VALUE, 0, false);
+    }
+
+    /** Pairs of seeds that draw cases of which one number or one sign alone is another. */
+    private static void sameButForOne() {
+        promise = "promise 12";
+        long[][] pairs = {{8, 135, 0, 0}, {151, 470, 0, 0}, {1, 2, 1, 0}, {0, 2, 1, 0}, {22, 46, 1, 1}, {3, 10, 1, 1},
+            {46, 98, 2, 0}, {6, 130, 2, 0}, {184, 853, 2, 0}, {2, 121, 3, 0}, {0, 2, 3, 0}, {80, 1076, 3, 0},
+            {0, 2, 4, 0}, {11, 13, 4, 1}, {42, 142, 4, 1}, {1, 3, 4, 0}, {6, 60, 4, 1},
+            {0, 1, 5, 0}, {2, 26, 5, 1}, {42, 88, 5, 1}, {0, 3, 5, 0}, {6, 28, 5, 1}};
+        for (long[] p : pairs) {
+            sameBoth(p[0], p[1], (int) p[2], (int) p[3], false);
+        }
     }
 
     private static void sameBoth(long one, long other, int kind, int size, boolean want) {
